@@ -1421,8 +1421,12 @@ public final class SlowPace {
         private final boolean[] listed = new boolean[TIRED_STATES];
         private final int[] tired = new int[MOST_SEARCHED];
         private final int[] burdens = new int[MOST_PLANS * MOST_SEARCHED];
-        // Paces on the piece by plan, walker and tiredness; NONE: not asked yet.
+        // What the rules tell for the piece, by plan, walker and tiredness; NONE: not asked yet.
         private final int[] pacesOn = new int[MOST_PLANS * MOST_SEARCHED * TIRED_KINDS];
+        private final int[] restedOn = new int[MOST_SEARCHED * TIRED_KINDS];
+        private final int[] behindOn = new int[MOST_PLANS * MOST_SEARCHED * TIRED_KINDS];
+        // How many minutes of the piece were asked about.
+        private final int[] behindFor = new int[MOST_PLANS * MOST_SEARCHED * TIRED_KINDS];
         private int cost;
         private int most;
         private long found;
@@ -1495,6 +1499,8 @@ public final class SlowPace {
                 }
             }
             Arrays.fill(pacesOn, NONE);
+            Arrays.fill(restedOn, NONE);
+            Arrays.fill(behindFor, NONE);
         }
 
         /** All that can be done on a piece by those who are so tired ahead of it. */
@@ -1533,8 +1539,13 @@ public final class SlowPace {
         private int behind(int k, int piece, int minutes) {
             int state = 0;
             for (int w = 0; w < band.walkers; w++) {
-                int pounds = burdens[k * MOST_SEARCHED + w];
-                state += SIXES[w] * paces.tiredBehind(w, pounds, tired[w], piece, minutes);
+                int at = k * MOST_SEARCHED + w;
+                int slot = at * TIRED_KINDS + tired[w];
+                if (behindFor[slot] != minutes) {
+                    behindOn[slot] = paces.tiredBehind(w, burdens[at], tired[w], piece, minutes);
+                    behindFor[slot] = minutes;
+                }
+                state += SIXES[w] * behindOn[slot];
             }
             return state;
         }
@@ -1543,9 +1554,12 @@ public final class SlowPace {
         private boolean rest(int piece) {
             boolean eased = false;
             for (int w = 0; w < band.walkers; w++) {
-                int now = paces.tiredRested(w, tired[w], piece);
-                eased = eased || now != tired[w];
-                tired[w] = now;
+                int slot = w * TIRED_KINDS + tired[w];
+                if (restedOn[slot] == NONE) {
+                    restedOn[slot] = paces.tiredRested(w, tired[w], piece);
+                }
+                eased = eased || restedOn[slot] != tired[w];
+                tired[w] = restedOn[slot];
             }
             return eased;
         }
@@ -1556,7 +1570,8 @@ public final class SlowPace {
                 statesThere[countThere] = behind;
                 countThere++;
             }
-            for (int layer = 0; layer < LAYERS; layer++) {
+            int layers = most == NONE ? MOST_PLANS : (most + 1) * MOST_PLANS;
+            for (int layer = 0; layer < layers; layer++) {
                 long before = here[layer * TIRED_STATES + state];
                 boolean changed = piece > 0 && layer % MOST_PLANS != k;
                 int changes = layer / MOST_PLANS + (changed && most != NONE ? 1 : 0);

@@ -35,6 +35,8 @@ public final class PromiseTest {
         kettle();
         check();
         count();
+        kept();
+        closest();
         order();
         System.exit(TOLD.end());
     }
@@ -970,6 +972,151 @@ public final class PromiseTest {
         due("31 count(19)", x.count(19), 90);
         due("31 lowest", x.count(Integer.MIN_VALUE), -1);
         due("31 highest", x.count(Integer.MAX_VALUE), -1);
+    }
+
+    /** What was reckoned before a call must not be answered behind it. */
+    private static void kept() {
+        SlowPace x = two();
+        due("10 tired 1", x.carry(0, 30, 1, 0), 39);
+        due("10 walker 1", x.carry(1, 30, 0, 0), 4);
+        due("10 piece 1", x.carry(0, 30, 0, 1), 29);
+        due("10 tired 5", x.carry(0, 20, 5, 0), 29);
+        Told.text(x, "v40-l/5-k-n(1=1)");
+        due("10 another text", x.carry(1, 30, 0, 0), 19);
+        x.walker(0, 50);
+        due("10 one walker more", x.carry(1, 30, 0, 0), 14);
+        x.lame(1, true);
+        due("10 lame", x.carry(1, 15, 0, 0), 14);
+        x = alike(1, "v30-l(1=1)");
+        x.piece(1, 0);
+        x.plan(0);
+        due("25 before", x.best(-1), 20);
+        x.load(20, 0, 0);
+        due("25 the plan fell", x.best(-1), -2);
+        Told.plan(x, 0, 0);
+        due("25 a load", x.best(-1), 60);
+        x.piece(1, 0);
+        due("25 a piece more", x.best(-1), 120);
+        x.lame(0, true);
+        due("25 lame", x.best(-1), 240);
+        Told.text(x, "v30(1=1)");
+        due("25 a text", x.best(-1), 80);
+        due("26 of one", x.often(0), 80);
+        due("27 of one", x.edge(), 0);
+        x.walker(0, 50);
+        due("25 the plan stays", x.best(-1), 80);
+    }
+
+    /** Where one number more or less would be another answer. */
+    private static void closest() {
+        SlowPace x = alike(2, "v30-l(1=1)");
+        x.load(10, -1, 0);
+        x.load(9, -1, 0);
+        x.load(1, -1, 0);
+        x.piece(2, 0);
+        due("14 by nobody", x.who(0, 0, 0), -1);
+        due("20 one pound, one piece", x.mule(1, 1, 0, 1), 60);
+        due("21 of the first load no such walker", Told.plan(x, 0, 2, 0, 0), false);
+        due("21 its number can't be", Told.plan(x, 0, 255, 0, 0), false);
+        Told.text(x, "v11(1=1)");
+        due("12 1200 through 11, rounded up", x.whole(0, 0, 9), 110);
+        Told.text(x, "v5(!1=1);v6(!1<2);v7(!2>1);v8(!1=2);v9(1=1)");
+        due("9 ! of what holds", x.pace(0, 0, 0, 0), 8);
+        Told.text(x, "v4-l(1=1)");
+        due("10 pace 1 up to 3", x.carry(0, 1, 0, 0), 3);
+        Told.text(x, "v2-l*2(1=1)");
+        due("10 below the bound", x.carry(0, 1, 0, 0), 0);
+        due("28 with nothing", x.bands(1, 2, 0), 300);
+        Told.text(x, "v1(1=1)");
+        due("28 the least pace of all", x.bands(1, 2, 0), 600);
+        Told.text(x, "v1-h(1=1)");
+        x.piece(1, 1);
+        due("28 the first below 0", x.bands(1, 2, 0), -2);
+        x = alike(2, "v60-w*10(1=1)");
+        x.piece(1, 0);
+        x.piece(1, 0);
+        due("28 the first minute of a piece", x.bands(1, 2, 0), 11);
+        due("28 the first minute of a piece", x.bands(1, 2, 1), 11);
+        due("28 no such walker", x.bands(4, 1, 0), -1);
+        Told.text(x, "v1+h(1=1)");
+        x.piece(1, 1);
+        due("28 the second below 0", x.bands(1, 2, 0), -2);
+        packed();
+        searched();
+    }
+
+    private static void packed() {
+        SlowPace x = alike(2, "v30(w=1|l<50)");
+        x.load(60, 0, 0);
+        x.piece(1, 0);
+        due("13 only with owners none", x.wont(0, 0), -1000000);
+        Told.text(x, "v60(l<50);v59(1=1)");
+        due("15 up to 60", x.pounds(0, 0, 0), 11);
+        Told.text(x, "v60(1=1)");
+        due("15 not beyond 60", x.pounds(0, 0, 0), -2);
+        due("19 of like ones nobody", x.carried(0, 0, 0), -1);
+        x.walker(0, 50);
+        Told.text(x, "v30(l<1);v10(1=1)");
+        due("16 of like ones the least row", x.ahead(0, 0, 0, 1), 0);
+        due("16 of like ones the least row", x.ahead(0, 0, 0, 2), 1);
+        x = alike(1, "v30(l<11)");
+        x.load(50, -1, 0);
+        x.piece(1, 0);
+        due("18 five", x.goes(0, 0), 5);
+        x.load(5, -1, 0);
+        due("18 no sixth", x.goes(0, 0), -2);
+        x = alike(6, "v50-l(1=1)");
+        for (int i = 0; i < 9; i++) {
+            x.load(10 + i, -1, 0);
+        }
+        x.piece(1, 0);
+        due("12 nine loads, six walkers", x.whole(0, 0, -1), 25);
+        int[] row = {0, 1, 2, 2, 1, 0, 3, 4, 5};
+        for (int i = 0; i < 9; i++) {
+            due("12 load " + i, x.whole(0, 0, i), row[i]);
+        }
+    }
+
+    private static void searched() {
+        SlowPace x = alike(2, "v40-t*5(1=1);g2(w=1&i=0);g4(w=0&i=1);r2(w=1);r4(1=1)");
+        for (int i = 0; i < 10; i++) {
+            x.piece(6, 0);
+        }
+        x.plan(4);
+        due("25 ten pieces: 90, 120 with what is left of one", x.best(-1), 90 + 120 + 8 * 90 + 30);
+        due("25 first", x.best(0), 4);
+        due("25 of like ones no rest ahead of piece 1", x.best(1), 4);
+        due("25 a rest ahead of piece 2", x.best(2), 10);
+        due("25 last", x.best(9), 4);
+        x = alike(2, "v40(w=0&l>0&i=0);v40(w=1&l>0&i=1);v40(w=0&l>0&i>1);v10(l>0);v40(1=1)");
+        x.load(20, -1, 0);
+        for (int i = 0; i < 10; i++) {
+            x.piece(2, 0);
+        }
+        Told.plan(x, 5, 0);
+        Told.plan(x, 4, 1);
+        due("26 two early changes", x.often(2), 320);
+        due("26 one", x.often(1), 390);
+        due("26 none", x.often(0), 390);
+        due("27", x.edge(), 45);
+        x.walker(0, 50);
+        x.walker(0, 50);
+        due("26 four walkers", x.often(3), 320);
+        due("27 four walkers", x.edge(), 45);
+        x = alike(2, "v12(w=0&i=0);v12(w=1&i=1);v4-m/9(l>0);v12(1=1)");
+        x.load(1, -1, 0);
+        x.piece(1, 0);
+        x.piece(1, 0);
+        Told.plan(x, 0, 0);
+        Told.plan(x, 1, 1);
+        Told.text(x, "v10(w=0&i=0);v10(w=1&i=1);v3(l>0);v10(1=1)");
+        due("27 140", x.edge(), -2);
+        Told.text(x, "v30(w=0&i=0);v30(w=1&i=1);v5(l>0);v30(1=1)");
+        due("27 100", x.edge(), 100);
+        Told.text(x, "v20(w=0&i=0);v20(w=1&i=1);v4(l>0);v20(1=1)");
+        due("27 120 do", x.edge(), 120);
+        Told.text(x, "v55(w=0&i=0);v55(w=1&i=1);v50(l>0);v55(1=1)");
+        due("27 1", x.edge(), 1);
     }
 
     /** Of several answers the one told last in its line goes first. */
