@@ -1654,27 +1654,24 @@ public final class SlowPace {
         }
 
         int goneByFirst(int minute) {
-            int left = minute;
-            int tenths = 0;
-            for (int piece = 0; piece < band.pieces && left > 0; piece++) {
-                tenths += tenthsIn(piece, first[piece], left);
-                left -= band.minutes(piece, first[piece]);
-            }
-            return tenths;
+            return gone(first, 0, 1, minute);
         }
 
         private int goneBySecond(int minute) {
-            int left = minute;
-            int tenths = 0;
-            for (int piece = band.pieces - 1; piece >= 0 && left > 0; piece--) {
-                tenths += tenthsIn(piece, second[piece], left);
-                left -= band.minutes(piece, second[piece]);
-            }
-            return tenths;
+            return gone(second, band.pieces - 1, -1, minute);
         }
 
-        private int tenthsIn(int piece, int pace, int minutes) {
-            return Math.min(10 * band.miles[piece], pace * minutes / 60);
+        /** Tenths of a mile gone in so many minutes from a piece on, one way or the other. */
+        private int gone(int[] speeds, int begin, int way, int minute) {
+            int left = minute;
+            int tenths = 0;
+            for (int i = 0; i < band.pieces && left > 0; i++) {
+                int piece = begin + way * i;
+                int pace = speeds[piece];
+                tenths += Math.min(10 * band.miles[piece], pace * left / 60);
+                left -= band.minutes(piece, pace);
+            }
+            return tenths;
         }
     }
 }
