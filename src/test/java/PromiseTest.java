@@ -1042,6 +1042,7 @@ public final class PromiseTest {
         x.piece(1, 1);
         due("28 the second below 0", x.bands(1, 2, 0), -2);
         packed();
+        six();
         searched();
     }
 
@@ -1075,6 +1076,21 @@ public final class PromiseTest {
         for (int i = 0; i < 9; i++) {
             due("12 load " + i, x.whole(0, 0, i), row[i]);
         }
+    }
+
+    private static void six() {
+        SlowPace x = alike(6, "v30-t(1=1);gw(w>3)");
+        x.piece(1, 0);
+        x.plan(0);
+        Told.march(x, 0);
+        due("23 walkers 4 and 5", x.ran(1), 4 * 1296 + 5 * 7776);
+        due("11 walker 4", x.parts(0, 0, 4 * 1296, 0), 26);
+        due("11 walker 5", x.parts(0, 0, 5 * 7776, 0), 25);
+        x = alike(1, "v30(l<5)");
+        x.load(5, -1, 0);
+        x.piece(1, 0);
+        due("14 from none to 1, with a load", x.who(0, 0, 0), 0);
+        due("14 from none to 1, with a load", x.who(0, 0, 1), 1);
     }
 
     private static void searched() {
