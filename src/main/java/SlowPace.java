@@ -1409,7 +1409,8 @@ public final class SlowPace {
         private static final int SIGNS = 18;
         // 18 to the 10th: a row's signs, one for each piece, stay below it.
         private static final long ROWS = 3570467226624L;
-        private static final long UNREACHED = Long.MAX_VALUE;
+        // Above every key: no march is of so many minutes.
+        private static final long UNREACHED = 1L << 62;
 
         boolean known;
         private long[] here = new long[LAYERS * TIRED_STATES];

@@ -15,6 +15,7 @@ public final class AskEdgeTest {
         minutes();
         carryBounds();
         carryUpTo();
+        carryOfEach();
         partsBounds();
         partsOfAll();
         partsTiredness();
@@ -178,6 +179,17 @@ public final class AskEdgeTest {
         due("10 401 is not", x.carry(0, 9, 0, 0), 400);
     }
 
+    /** Each walker, however tired, on each piece has his own answer, in whatever order they are asked. */
+    private static void carryOfEach() {
+        SlowPace x = Scene.level(6, 10, "v1(l<w*60+t*10+i+1)");
+        SlowPace y = Scene.level(6, 10, "v1(l<w*60+t*10+i+1)");
+        for (int i = 0; i < 360; i++) {
+            due("10 of " + i, x.carry(i / 60, 1, i / 10 % 6, i % 10), i);
+            int k = 359 - i;
+            due("10 from the last on, of " + k, y.carry(k / 60, 1, k / 10 % 6, k % 10), k);
+        }
+    }
+
     private static void partsBounds() {
         SlowPace x = Scene.level(6, 1, "v60(1=1)");
         int[][] refused = {{-1, 0}, {2401, 0}, {LOWEST, 0}, {HIGHEST, 0}, {0, -1}, {0, 3}, {0, LOWEST}, {0, HIGHEST}};
@@ -333,9 +345,13 @@ public final class AskEdgeTest {
         row("who goes slower with something", x, 2, 0);
         x.lame(1, true);
         row("lame", x, 1, 0);
-        Told.text(x, "v60(1=1)");
-        x.lame(1, false);
-        row("60", x, 60, 0);
+        x = Scene.laden(Scene.level(1, 1, "v60(l<5);v10(l<7);v60(1=1)"), 8);
+        row("by what he can carry, not by his pace with it", x, 10, 0);
+        due("9 his pace with it", x.pace(0, 8, 0, 0), 60);
+        x = Scene.laden(Scene.level(2, 1, "v60(1=1)"), 1);
+        x.lame(1, true);
+        row("the other one is lame", x, 30, 0);
+        row("60", Scene.laden(Scene.level(2, 1, "v60(1=1)"), 1), 60, 0);
     }
 
     private static void wholeAsTheyAre() {
@@ -408,6 +424,8 @@ public final class AskEdgeTest {
         grows("two from none", Scene.level(2, 1, "v0(1=1)"), -1, 0);
         grows("one from none", Scene.level(2, 1, "v1-w(1=1)"), 1, 1);
         grows("laden from none", loaded(1, 100), 0, 1);
+        grows("400 pounds from none", Scene.laden(Scene.level(1, 1, "v0(1=1)"), 120, 120, 120, 40), 0, 1);
+        grows("401 pounds from none", Scene.laden(Scene.level(1, 1, "v0(1=1)"), 120, 120, 120, 41), -1, 0);
         grows("401 pounds are too much", Scene.laden(Scene.level(1, 1, "v9(1=1)"), 120, 120, 120, 41), -1, 0);
         SlowPace x = Scene.level(1, 1, "v9(1=1)");
         int[] none = {-1, 2, LOWEST, HIGHEST};
@@ -521,6 +539,7 @@ public final class AskEdgeTest {
         due("16 (0, 3) and (1, 2) alike", x.ahead(0, 0, 10, 0), 20);
         due("16 the least row is (0, 3)", x.ahead(0, 0, 10, 1), 0);
         due("16 the least row is (0, 3)", x.ahead(0, 0, 10, 2), 3);
+        due("16 there are three walkers still", Scene.level(3, 1, "vn*10(1=1)").ahead(0, 0, 0, 0), 20);
         x = Scene.level(6, 1, "v30+w(1=1)");
         due("16 the last two", x.ahead(0, 0, 20, 1), 4);
         due("16 the last two", x.ahead(0, 0, 20, 2), 5);
@@ -646,6 +665,11 @@ public final class AskEdgeTest {
         x = Scene.level(6, 1, "v30-w/5*20(1=1)");
         Scene.laden(x, 1, 1, 1, 1, 1, 1, 1, 1, 1);
         borne("nine loads and one", x, 5, 20);
+        x = Scene.laden(Scene.level(2, 1, "v30-l/10-w*20(1=1)"), 1, 1, 1, 1, 1, 1, 1, 1, 1);
+        borne("59 pounds", x, 1, 24);
+        borne("whole, not in parts", Scene.level(3, 1, "v60(l<50&w<2)"), -2, -2);
+        borne("whole", Scene.level(3, 1, "v60(l<51&w<2)"), 2, 10);
+        borne("there are three walkers still", Scene.level(3, 1, "vn*10(w<2)"), 2, 20);
     }
 
     private static void muleBounds() {

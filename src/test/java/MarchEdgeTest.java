@@ -18,15 +18,21 @@ public final class MarchEdgeTest {
         ranTired();
         ranChanges();
         ranRests();
+        ranSigns();
+        ranPaces();
         ranSpent();
         ranAsAllIsNow();
         gap();
         gapSpent();
         bestWhat();
         bestWalkers();
+        bestNobody();
         bestRests();
         bestLike();
         bestPlans();
+        bestTired();
+        bestEased();
+        bestMany();
         often();
         edge();
         edgeBounds();
@@ -316,6 +322,38 @@ public final class MarchEdgeTest {
         due("23 the least pace", x.ran(0), 10 + 30 + 30);
     }
 
+    /** Plan k gives a load to walker k, who alone gets tired by it: all signs ahead of the second piece. */
+    private static void ranSigns() {
+        SlowPace x = Scene.laden(Scene.level(6, 2, "v60-t(1=1);g2(i=0);g3(l>0);r1(1=1)"), 9);
+        for (int k = 0; k < 6; k++) {
+            Told.plan(x, k, k);
+        }
+        int one = 1;
+        for (int k = 0; k < 6; k++) {
+            for (int rests = 0; rests < 3; rests++) {
+                Told.march(x, 0, 6 * rests + k);
+                due("23 tired by sign " + (6 * rests + k), x.ran(1), 9331 * (2 - rests) + 3 * one);
+                due("23 minutes by sign " + (6 * rests + k), x.ran(0), 10 + 30 * rests
+                        + (k == 0 ? 0 : 10) + (rests < 2 ? 11 : 10));
+                due("29 who carried", x.kettle(0), 0);
+                Told.march(x, 6 * rests + k, 6 * rests + k);
+                due("29 who carried by sign " + (6 * rests + k), x.kettle(0), k);
+            }
+            one *= 6;
+        }
+    }
+
+    /** By his pace with what he carries, not by what he can carry at it. */
+    private static void ranPaces() {
+        SlowPace x = Scene.laden(Scene.level(2, 1, "v60(l<5);v10(l<7);v30(1=1)"), 8);
+        Told.plan(x, 0, 0);
+        Told.plan(x, 1, 1);
+        Told.march(x, 0);
+        due("23 30 with 8 pounds", x.ran(0), 20);
+        due("24 30 and 60", x.gap(0), 10);
+        due("25 as it is run", x.best(-1), 20);
+    }
+
     private static void ranSpent() {
         SlowPace x = Scene.level(1, 3, "v60(i<1);v60(t<3&i<2);v30(t=0);g5(1=1);r2(1=1)");
         x.plan(0);
@@ -459,6 +497,29 @@ public final class MarchEdgeTest {
         due("27 no pieces go first", five.edge(), -1);
     }
 
+    private static void bestNobody() {
+        SlowPace x = Scene.level(0, 2, "v60(1=1)");
+        for (int what = -1; what < 2; what++) {
+            due("25 no walkers, no plan, what " + what, x.best(what), -1);
+        }
+        due("26 no walkers, no plan", x.often(0), -1);
+        due("27 no walkers, no plan", x.edge(), -1);
+        x.plan(0);
+        for (int what = -1; what < 2; what++) {
+            due("25 no walkers, what " + what, x.best(what), -1);
+        }
+        due("26 no walkers", x.often(3), -1);
+        due("27 no walkers", x.edge(), -1);
+        x.walker(0, 50);
+        due("25 one has come", x.best(-1), 20);
+        SlowPace y = Scene.level(1, 0, "v60(1=1)");
+        y.plan(0);
+        due("25 no pieces", y.best(-1), -1);
+        due("25 no piece 0", y.best(0), -1);
+        due("26 no pieces", y.often(0), -1);
+        due("27 no pieces", y.edge(), -1);
+    }
+
     private static SlowPace resting(String text) {
         SlowPace x = Scene.level(1, 1, text);
         x.piece(5, 0);
@@ -530,6 +591,78 @@ public final class MarchEdgeTest {
         due("25 the piece more", x.best(3), 2);
     }
 
+    /** Who carries gets tired, and is slow with a load then: a rest, or the other one's turn. */
+    private static void bestTired() {
+        SlowPace x = Scene.laden(Scene.level(2, 2, "v60(t=0|l=0);v10(1=1);g1(l>0);r1(1=1)"), 10);
+        Told.plan(x, 0, 0);
+        due("25 a rest is less than 50", x.best(-1), 50);
+        due("25 a rest", x.best(1), 6);
+        Told.plan(x, 1, 1);
+        due("25 a change of 10 is less than a rest", x.best(-1), 30);
+        due("25 the least row", x.best(0), 0);
+        due("25 a change", x.best(1), 1);
+        x.change(30);
+        due("25 a change of 30 is as good as a rest", x.best(-1), 50);
+        due("25 1 is below 6", x.best(1), 1);
+        x.change(31);
+        due("25 a change of 31 is not", x.best(1), 6);
+        x = Scene.laden(Scene.level(4, 5, "v60(t=0|l=0);v10(1=1);g5(l>0)"), 10);
+        int[] row = {5, 3, 4, 2};
+        for (int k = 0; k < 4; k++) {
+            Told.plan(x, row[k], k);
+        }
+        due("25 four turns, the last one tired", x.best(-1), 50 + 30 + 50);
+        int[] least = {2, 2, 3, 4, 5};
+        x.change(0);
+        due("25 at no cost", x.best(-1), 100);
+        for (int piece = 0; piece < 5; piece++) {
+            due("25 turn " + piece, x.best(piece), least[piece]);
+        }
+    }
+
+    /** A rest by which one walker alone is less tired, each by his own. */
+    private static void bestEased() {
+        for (int w = 0; w < 4; w++) {
+            SlowPace x = Scene.level(4, 2, "v60-t*10(1=1);g5(w=" + w + "&i=0);r3(w=" + w + ")");
+            x.plan(0);
+            due("25 walker " + w + " rests once or twice", x.best(-1), 10 + 30 + 15);
+            due("25 once", x.best(1), 6);
+            Told.text(x, "v60-t*10(1=1);g5(w=" + w + "&i=0);r3(!w=" + w + ")");
+            due("25 walker " + w + " is not less tired", x.best(-1), 10 + 60);
+            due("25 no rest", x.best(1), 0);
+        }
+        SlowPace x = Scene.level(4, 2, "v60-t*11(1=1);g5-w(i=0);r5-w(1=1)");
+        x.plan(0);
+        due("25 all by their own", x.best(-1), 10 + 30 + 10);
+        Told.text(x, "v60-t*10(1=1);g5(i=0);r5-w(1=1)");
+        due("25 as tired, but not as rested", x.best(-1), 10 + 30 + 20);
+        x = Scene.level(4, 3, "v60(i=0|t<2);v10(1=1);g5-w*5(i=0);rw+1(1=1);g5(w=1)");
+        x.plan(0);
+        due("25 5, 0, 0, 0 and rests of 1, 2, 3, 4", x.best(-1), 10 + 60 + 60);
+        due("25 no rest is of use", x.best(1), 0);
+    }
+
+    /** As many plans, pieces and ways to be tired as there can be. */
+    private static void bestMany() {
+        SlowPace x = Scene.laden(Scene.level(4, 10, "v60(1=1);g1(l>0);g5(i%5=4);r1(t>3);r2(1=1)"), 1, 2, 4, 8);
+        int[][] plans = {{0, 1, 2, 3}, {0, 0, 0, 0}, {1, 1, 1, 1}, {2, 2, 2, 2}, {3, 3, 3, 3}, {0, 0, 1, 1}};
+        for (int k = 0; k < 6; k++) {
+            Told.plan(x, k, plans[k]);
+        }
+        due("25 all alike", x.best(-1), 100);
+        for (int piece = 0; piece < 10; piece++) {
+            due("25 the least row", x.best(piece), 0);
+        }
+        due("26 three", x.often(3), 100);
+        due("27 none gains", x.edge(), 0);
+        x.change(0);
+        Told.text(x, "v60(i%3=0&l<15|i%3=1&w=3|i%3=2&w=0|l=0);v59(1=1);g1(l>0);g5(1=1);r5(1=1)");
+        due("25 each piece its plan", x.best(-1), 100);
+        due("26 three at no cost", x.often(3), 100 + 4);
+        due("26 none", x.often(0), 100 + 6);
+        due("27 a minute", x.edge(), 1);
+    }
+
     /** Walker 0 is quick on even pieces with the load, walker 1 on odd ones. */
     private static SlowPace odd(int pieces, int slow) {
         SlowPace x = Scene.laden(Scene.level(2, pieces, "v60(l=0|w=i%2);v" + slow + "(1=1)"), 1);
@@ -578,6 +711,14 @@ public final class MarchEdgeTest {
         due("27 it does not go by what a change costs", x.edge(), 40);
         x = odd(4, 12);
         due("27 120, or 40 and three", x.edge(), 40);
+        x = Scene.laden(Scene.level(2, 2, "v60(l=0|w=i%2);v12(1=1)"), 1);
+        Told.plan(x, 0, 0);
+        Told.plan(x, 5, 1);
+        due("27 from plan 0 to 5", x.edge(), 40);
+        x = Scene.laden(Scene.level(2, 2, "v60(l=0|w=i%2);v12(1=1)"), 1);
+        Told.plan(x, 5, 0);
+        Told.plan(x, 0, 1);
+        due("27 from plan 5 to 0", x.edge(), 40);
         x = odd(1, 12);
         due("27 on one piece there is no change", x.edge(), 0);
         x = Scene.laden(Scene.level(2, 3, "v60(1=1)"), 9);
@@ -679,6 +820,15 @@ public final class MarchEdgeTest {
         Told.text(x, "v31(w=0);v7(1=1)");
         due("28 20 minutes for the first piece, then the next", x.bands(1, 2, 0), 34);
         due("28 at 20 the next begins", x.bands(1, 2, 1), 17);
+        x = Scene.level(2, 1, "v60(w=0&i=0);v30(w=0&i=1);v20(w=0&i=2);v1(1=1)");
+        x.piece(2, 0);
+        x.piece(4, 0);
+        due("28 the first is in its third piece", x.bands(1, 2, 0), 164);
+        due("28 one mile, two, and 38 tenths of the third", x.bands(1, 2, 1), 68);
+        due("28 the second from the last on", x.bands(2, 1, 0), 168);
+        due("28 the other one's part", x.bands(2, 1, 1), 2);
+        Told.text(x, "vn*10(1=1)");
+        due("28 n tells all walkers", x.bands(1, 2, 0), 105);
         x = new SlowPace();
         x.walker(0, 50);
         x.walker(0, 50);

@@ -53,6 +53,10 @@ public final class OracleTest {
             packing();
             return;
         }
+        if (dice.once(20)) {
+            far();
+            return;
+        }
         int walkers = dice.from(0, 5) == 0 ? dice.from(0, 1) : dice.from(1, 6);
         for (int i = 0; i < walkers; i++) {
             walker();
@@ -111,6 +115,36 @@ public final class OracleTest {
                 check();
             }
             go(dice.from(24, 27));
+        }
+    }
+
+    /** A run for long marches. */
+    private void far() {
+        int walkers = dice.from(1, 4);
+        for (int i = 0; i < walkers; i++) {
+            walker();
+        }
+        int loads = dice.from(1, 5);
+        for (int i = 0; i < loads; i++) {
+            load();
+        }
+        int pieces = dice.from(5, 10);
+        for (int i = 0; i < pieces; i++) {
+            piece();
+        }
+        for (int k = 0; k < 3; k++) {
+            plan(dice.from(0, 5));
+        }
+        for (int i = 0; i < 2 && wrong == 0; i++) {
+            tell(ThrownTexts.tiring(dice));
+            tell(4);
+            for (int what = -1; what < pieces; what++) {
+                due("best(" + what + ")", real.best(what), plain.best(what));
+            }
+            for (int changes = 0; changes < 4; changes++) {
+                due("often(" + changes + ")", real.often(changes), plain.often(changes));
+            }
+            due("edge()", real.edge(), plain.edge());
         }
     }
 

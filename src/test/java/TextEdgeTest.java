@@ -256,6 +256,10 @@ public final class TextEdgeTest {
         faulty("v1(((([[[w]]]=1))))", 5, 8);
         faulty("v1((((((w=[1]))))))", 5, 10);
         fine("v1(((((w=[1])))))", 1);
+        faulty("v1((((((w=(1))))))", 1, 10);
+        faulty("v1((((((w=!1))))))", 1, 10);
+        faulty("v[[[[[[(1]]]]]](1=1)", 1, 7);
+        faulty("v[[[[[[!1]]]]]](1=1)", 1, 7);
     }
 
     private static void openNots() {

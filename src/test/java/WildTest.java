@@ -11,7 +11,8 @@ public final class WildTest {
     }
 
     public static void main(String[] args) {
-        for (int run = 0; run < 120; run++) {
+        int runs = args.length > 0 ? Integer.parseInt(args[0]) : 120;
+        for (int run = 0; run < runs; run++) {
             WildTest test = new WildTest(new Dice(run));
             int call = 0;
             try {

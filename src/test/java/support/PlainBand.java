@@ -1,5 +1,7 @@
 import java.util.ArrayList;
+import java.util.HashMap;
 import java.util.List;
+import java.util.Map;
 
 /** The document once more, in its plainest form: every row, every march and every minute is gone through. */
 final class PlainBand {
@@ -607,6 +609,78 @@ final class PlainBand {
         }
     }
 
+    /** Where there are too many marches to go through: the fewest minutes from a piece on, from the last one back. */
+    private final class Back {
+        private final Map<Long, Integer> known = new HashMap<>();
+
+        int fewest(int piece, int[] tired, int before, int left) {
+            if (piece == pieces.size()) {
+                return 0;
+            }
+            long key = (piece * 16L + left) * 32 + before + 1;
+            for (int t : tired) {
+                key = 6 * key + t;
+            }
+            Integer told = known.get(key);
+            if (told != null) {
+                return told;
+            }
+            int fewest = NEVER;
+            for (int sign = 0; sign < 18 && walkers.size() <= 4; sign++) {
+                fewest = Math.min(fewest, by(sign, piece, tired, before, left));
+            }
+            known.put(key, fewest);
+            return fewest;
+        }
+
+        /** The fewest minutes if a piece is gone by a sign. */
+        private int by(int sign, int piece, int[] tired, int before, int left) {
+            boolean changed = before >= 0 && before != sign % 6;
+            Way way = at(piece, tired);
+            if (plans[sign % 6] == null || changed && left == 0 || !way.go(sign, before)) {
+                return NEVER;
+            }
+            int more = fewest(piece + 1, way.now, sign % 6, left - (changed ? 1 : 0));
+            return Math.min(NEVER, way.minutes.get(piece) + more);
+        }
+
+        private Way at(int piece, int[] tired) {
+            Way way = new Way();
+            for (int i = 0; i < piece; i++) {
+                way.minutes.add(0);
+            }
+            way.now = tired;
+            return way;
+        }
+
+        int fewest(int changes) {
+            return fewest(0, new int[walkers.size()], -1, changes);
+        }
+
+        /** The sign of a piece in the least row. */
+        int sign(int what) {
+            int[] tired = new int[walkers.size()];
+            int before = -1;
+            for (int piece = 0; true; piece++) {
+                int sign = 0;
+                while (by(sign, piece, tired, before, 9) > fewest(piece, tired, before, 9)) {
+                    sign++;
+                }
+                if (piece == what) {
+                    return sign;
+                }
+                Way way = at(piece, tired);
+                way.go(sign, before);
+                tired = way.now;
+                before = sign % 6;
+            }
+        }
+    }
+
+    private boolean many() {
+        return marches() > 4000;
+    }
+
     /** How many marches there are to go through. */
     long marches() {
         int told = 0;
@@ -633,6 +707,11 @@ final class PlainBand {
         if (what != -1 && noPiece(what) || walkers.isEmpty() || pieces.isEmpty()) {
             return -1;
         }
+        if (many()) {
+            Back back = new Back();
+            int fewest = back.fewest(9);
+            return fewest == NEVER ? -2 : what == -1 ? fewest : back.sign(what);
+        }
         All all = new All();
         int best = 0;
         for (int c = 1; c < 10; c++) {
@@ -652,6 +731,10 @@ final class PlainBand {
         if (changes < 0 || changes > 3 || walkers.isEmpty() || pieces.isEmpty()) {
             return -1;
         }
+        if (many()) {
+            int few = new Back().fewest(changes);
+            return few == NEVER ? -2 : few;
+        }
         All all = new All();
         int fewest = NEVER;
         for (int c = 0; c <= changes; c++) {
@@ -666,12 +749,20 @@ final class PlainBand {
         }
         int kept = change;
         change = 0;
-        All all = new All();
+        int[] fewest = new int[10];
+        if (many()) {
+            Back back = new Back();
+            for (int c = 0; c < 10; c++) {
+                fewest[c] = back.fewest(c);
+            }
+        } else {
+            fewest = new All().fewest;
+        }
         change = kept;
-        for (int cost = 0; cost <= 120 && all.fewest[0] < NEVER; cost++) {
+        for (int cost = 0; cost <= 120 && fewest[0] < NEVER; cost++) {
             boolean less = false;
             for (int c = 1; c < 10; c++) {
-                less |= all.fewest[c] + c * cost < all.fewest[0];
+                less |= fewest[c] + c * cost < fewest[0];
             }
             if (!less) {
                 return cost;
