@@ -33,6 +33,7 @@ public final class MarchEdgeTest {
         bestTired();
         bestEased();
         bestMany();
+        bestAllTired();
         often();
         edge();
         edgeBounds();
@@ -661,6 +662,32 @@ public final class MarchEdgeTest {
         due("26 three at no cost", x.often(3), 100 + 4);
         due("26 none", x.often(0), 100 + 6);
         due("27 a minute", x.edge(), 1);
+    }
+
+    /** Ahead of the last piece four walkers can be tired in all 1296 ways; quick is one of them. */
+    private static void bestAllTired() {
+        SlowPace x = Scene.laden(Scene.level(4, 10, "v60(i<9|t=5);v30(1=1);gl(w=i&w<3);gl%2(w=3&i>2)"),
+                1, 2, 2, 1, 2, 2, 1, 2, 2);
+        int[][] own = {{3, 3, 3}, {0, 3, 3}, {3, 0, 3}, {0, 0, 3}, {3, 0, 0}, {0, 0, 0}};
+        for (int k = 0; k < 6; k++) {
+            int[] plan = new int[9];
+            for (int load = 0; load < 9; load++) {
+                plan[load] = own[k][load % 3] == 3 ? 3 : load / 3;
+            }
+            due("21 plan " + k, Told.plan(x, k, plan), true);
+        }
+        x.change(3);
+        due("25 all are 5 tired", x.best(-1), 103);
+        int[] row = {5, 5, 5, 0, 0, 0, 0, 0, 0, 0};
+        for (int piece = 0; piece < 10; piece++) {
+            due("25 by sign " + row[piece], x.best(piece), row[piece]);
+        }
+        due("26 with one change", x.often(1), 103);
+        due("26 without", x.often(0), 110);
+        due("27 ten minutes by one change", x.edge(), 10);
+        x.change(10);
+        due("25 at the edge", x.best(-1), 110);
+        due("25 the least row", x.best(0), 0);
     }
 
     /** Walker 0 is quick on even pieces with the load, walker 1 on odd ones. */
